@@ -658,7 +658,7 @@ public final class TownsUnderSail {
             return false;
         }
 
-        boolean isSo(int start, int end, int[] values) {
+        private boolean isSo(int start, int end, int[] values) {
             top = 0;
             for (int i = start; i < end; i++) {
                 int what = -code[i];
@@ -676,14 +676,14 @@ public final class TownsUnderSail {
             return pop() != 0;
         }
 
-        void push(int value) {
+        private void push(int value) {
             if (within(top, 0, STACK - 1)) {
                 stack[top] = value;
                 top++;
             }
         }
 
-        int pop() {
+        private int pop() {
             if (!within(top, 1, STACK)) {
                 return 0;
             }
@@ -691,7 +691,7 @@ public final class TownsUnderSail {
             return stack[top];
         }
 
-        int joined(int left, int sign, int right) {
+        private int joined(int left, int sign, int right) {
             switch (sign) {
                 case '+':
                     return left + right;
@@ -926,7 +926,7 @@ public final class TownsUnderSail {
             }
         }
 
-        int signAt(int i) {
+        private int signAt(int i) {
             return within(i, 0, length - 1) && i < MOST_TAPE ? bytes[i] & 255 : NONE;
         }
 
@@ -948,7 +948,7 @@ public final class TownsUnderSail {
             places[count] = length;
         }
 
-        int endOfRun(int from) {
+        private int endOfRun(int from) {
             boolean letters = isLetter(signAt(from));
             boolean digits = isDigit(signAt(from));
             int to = from + 1;
@@ -962,7 +962,7 @@ public final class TownsUnderSail {
             return to;
         }
 
-        int tokenOf(int from, int to) {
+        private int tokenOf(int from, int to) {
             int sign = signAt(from);
             if (isLetter(sign)) {
                 return wordOf(from, to);
@@ -975,7 +975,7 @@ public final class TownsUnderSail {
             return isSign ? sign : STRAY;
         }
 
-        int numberOf(int from, int to) {
+        private int numberOf(int from, int to) {
             if (to - from > MOST_DIGITS) {
                 return STRAY;
             }
@@ -986,7 +986,7 @@ public final class TownsUnderSail {
             return NUMBER + value;
         }
 
-        int wordOf(int from, int to) {
+        private int wordOf(int from, int to) {
             int word = WORD;
             int same = from;
             boolean fits = true;
@@ -1006,11 +1006,11 @@ public final class TownsUnderSail {
             return STRAY;
         }
 
-        static boolean isLetter(int sign) {
+        private static boolean isLetter(int sign) {
             return within(sign, 'a', 'z') || within(sign, 'A', 'Z');
         }
 
-        static boolean isDigit(int sign) {
+        private static boolean isDigit(int sign) {
             return within(sign, '0', '9');
         }
     }
@@ -1051,7 +1051,7 @@ public final class TownsUnderSail {
             }
         }
 
-        void advance() {
+        private void advance() {
             if (next >= 0 && next <= MOST_TAPE) {
                 token = tape.tokens[next];
                 place = tape.places[next];
@@ -1060,7 +1060,7 @@ public final class TownsUnderSail {
         }
 
         /** After a fault no token fits anywhere, so that all that is open comes to its end. */
-        void fail(int what) {
+        private void fail(int what) {
             if (fault == 0) {
                 fault = what;
                 faultPlace = place;
@@ -1068,7 +1068,7 @@ public final class TownsUnderSail {
             token = STRAY;
         }
 
-        void expect(int wanted) {
+        private void expect(int wanted) {
             if (token == wanted) {
                 advance();
             } else {
@@ -1076,7 +1076,7 @@ public final class TownsUnderSail {
             }
         }
 
-        void readLine() {
+        private void readLine() {
             boolean isSail = token == SAIL;
             if (!isSail && token != FURL) {
                 fail(FAULT_PLACE);
@@ -1096,7 +1096,7 @@ public final class TownsUnderSail {
         }
 
         /** How deep this goes is kept low by the count of what is open. */
-        void readJoined(int level, int open) {
+        private void readJoined(int level, int open) {
             readPart(level, open);
             for (int i = 0; i < MOST_TAPE && levelOf(token) == level; i++) {
                 int sign = token;
@@ -1109,7 +1109,7 @@ public final class TownsUnderSail {
             }
         }
 
-        void readPart(int level, int open) {
+        private void readPart(int level, int open) {
             switch (level) {
                 case ANY:
                     readJoined(ALL, open);
@@ -1126,7 +1126,7 @@ public final class TownsUnderSail {
             }
         }
 
-        void readClaim(int open) {
+        private void readClaim(int open) {
             int opener = token;
             if (opener != NOT && opener != '(') {
                 readComparison(open);
@@ -1146,7 +1146,7 @@ public final class TownsUnderSail {
             }
         }
 
-        void readComparison(int open) {
+        private void readComparison(int open) {
             readJoined(SUM, open);
             int sign = token;
             if (sign != '<' && sign != '=' && sign != '>') {
@@ -1158,7 +1158,7 @@ public final class TownsUnderSail {
             orders.addCode(-sign);
         }
 
-        void checkDivisor() {
+        private void checkDivisor() {
             if (token < NUMBER) {
                 fail(FAULT_PLACE);
             } else if (token == NUMBER) {
@@ -1166,7 +1166,7 @@ public final class TownsUnderSail {
             }
         }
 
-        void readUnit() {
+        private void readUnit() {
             if (token >= NUMBER) {
                 orders.addCode(token - NUMBER);
                 advance();
@@ -1178,7 +1178,7 @@ public final class TownsUnderSail {
             }
         }
 
-        static int levelOf(int sign) {
+        private static int levelOf(int sign) {
             switch (sign) {
                 case OR:
                     return ANY;
@@ -1231,7 +1231,7 @@ public final class TownsUnderSail {
             return steps;
         }
 
-        boolean isToldToSail(Village one) {
+        private boolean isToldToSail(Village one) {
             if (!within(one.kind, 0, KINDS - 1) || !ground.has(one.x, one.y)) {
                 return false;
             }
@@ -1249,7 +1249,7 @@ public final class TownsUnderSail {
             return orders.tellToSail(values);
         }
 
-        int countNear(Village one) {
+        private int countNear(Village one) {
             int near = 0;
             for (int i = 0; i < ground.villageCount; i++) {
                 Village other = ground.villages[i];
@@ -1260,7 +1260,7 @@ public final class TownsUnderSail {
             return near;
         }
 
-        int countTied(Village one) {
+        private int countTied(Village one) {
             int tied = 0;
             for (int i = 0; i < ground.ropeCount; i++) {
                 if (ground.ropes[i].holdsOn(one.number)) {
@@ -1270,7 +1270,7 @@ public final class TownsUnderSail {
             return tied;
         }
 
-        int sailOut(Village one) {
+        private int sailOut(Village one) {
             int most = one.stepsBy(way, force);
             boolean goes = within(way, 0, DX.length - 1);
             int made = 0;
@@ -1288,7 +1288,7 @@ public final class TownsUnderSail {
         }
 
         /** Ropes that tear ahead of one that holds stay torn. */
-        boolean isHeld(Village one, int x, int y) {
+        private boolean isHeld(Village one, int x, int y) {
             for (int i = 0; i < ground.ropeCount; i++) {
                 Rope rope = ground.ropes[i];
                 Village other = ground.villageOf(rope.otherThan(one.number));
@@ -1303,7 +1303,7 @@ public final class TownsUnderSail {
         }
 
         /** Whether it can go on from there; it can't once it has sunk in. */
-        boolean step(Village one, int x, int y) {
+        private boolean step(Village one, int x, int y) {
             if (!ground.has(one.x, one.y) || !ground.has(x, y)) {
                 return false;
             }
@@ -1319,7 +1319,7 @@ public final class TownsUnderSail {
             return false;
         }
 
-        void countMeetings() {
+        private void countMeetings() {
             for (int a = 0; a < ground.villageCount; a++) {
                 Village one = ground.villages[a];
                 for (int b = a + 1; b < ground.villageCount; b++) {
@@ -1330,7 +1330,7 @@ public final class TownsUnderSail {
             }
         }
 
-        void drink(Village one) {
+        private void drink(Village one) {
             if (ground.wellNear(one.x, one.y)) {
                 one.thirst = 0;
                 return;
@@ -1402,7 +1402,7 @@ public final class TownsUnderSail {
             System.arraycopy(gained, 0, held, 0, SIDE);
         }
 
-        void gainBy(int way, int force) {
+        private void gainBy(int way, int force) {
             int steps = home.stepsBy(way, force);
             if (steps == 0 || !within(way, 0, DX.length - 1)) {
                 return;
@@ -1417,7 +1417,7 @@ public final class TownsUnderSail {
         }
 
         /** One step of every cell at once; those that can't go on stay where they are. */
-        void stepAll(int dx, int dy) {
+        private void stepAll(int dx, int dy) {
             Arrays.fill(moved, 0);
             for (int y = 0; y < SIDE; y++) {
                 int toY = y + dy;
@@ -1489,7 +1489,7 @@ public final class TownsUnderSail {
             return NONE;
         }
 
-        static int pushed(int row, int dx) {
+        private static int pushed(int row, int dx) {
             if (dx == 0) {
                 return row;
             }
@@ -1526,7 +1526,7 @@ public final class TownsUnderSail {
         }
 
         /** Who is stuck in an hour was so in all hours ahead of it. */
-        long stuckOdds(long odds, int hours) {
+        private long stuckOdds(long odds, int hours) {
             long all = odds;
             for (int i = 0; i < hours; i++) {
                 all *= TENTHS;
@@ -1534,7 +1534,7 @@ public final class TownsUnderSail {
             return all;
         }
 
-        void goBackHour(int hour) {
+        private void goBackHour(int hour) {
             int shift = ground.shifts[hour];
             int way = ground.ways[hour];
             int force = ground.forces[hour];
@@ -1555,7 +1555,7 @@ public final class TownsUnderSail {
             sooner = done;
         }
 
-        long better(int x, int y, int way, int force) {
+        private long better(int x, int y, int way, int force) {
             long stays = later[cell(x, y)];
             if (!within(way, 0, DX.length - 1)) {
                 return stays;

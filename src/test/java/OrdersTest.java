@@ -42,6 +42,14 @@ public final class OrdersTest {
         Due.is("end(5)", t.end(5), true);
         Due.is("end(6)", t.end(6), false);
         Due.is("text", t.text(0), 1);
+        Due.feed(t, "furl;sail when x<12345;");
+        t.end(18);
+        Due.is("cut within a number", t.text(0), -1);
+        Due.is("its end", t.fault(1), 18);
+        Due.feed(t, "furl;sailing");
+        t.end(9);
+        Due.is("cut within a word", t.text(0), -1);
+        Due.is("its end", t.fault(1), 9);
     }
 
     private static void texts() {

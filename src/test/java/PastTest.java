@@ -5,9 +5,12 @@ public final class PastTest {
 
     public static void main(String[] args) {
         undone();
+        tornUndone();
         forgotten();
         kept();
         images();
+        imagesOfOrders();
+        freshNumbers();
         Due.finish();
     }
 
@@ -89,6 +92,25 @@ public final class PastTest {
             Due.is("as it was at " + i, all(u).equals(were[i]), true);
         }
         Due.is("no more", u.undo(), false);
+    }
+
+    private static void tornUndone() {
+        TownsUnderSail t = new TownsUnderSail();
+        t.village(3, 6, 9, 1, 0);
+        t.village(3, 7, 1, 0, 1);
+        t.rope(0, 1, 1);
+        t.rope(1, 0, 2);
+        Due.tell(t, 0, "sail;");
+        t.hours(3);
+        Due.is("torn", t.tie(0, 3), 1);
+        Due.is("torn", t.tie(1, 3), 1);
+        t.undo();
+        t.undo();
+        Due.is("still torn", t.tie(0, 3), 1);
+        Due.is("whole again", t.tie(1, 3), 0);
+        t.undo();
+        Due.is("whole again", t.tie(0, 3), 0);
+        Due.is("not met yet", t.met(0, 1), 0);
     }
 
     private static void forgets(String what, TownsUnderSail t, boolean forgets) {
@@ -180,6 +202,12 @@ public final class PastTest {
             t.state(1);
             if (i == 1) {
                 t.plain(12, 12);
+                for (int v = 0; v < 4; v++) {
+                    t.village(11 - v, v, v, 0, v);
+                }
+                t.rope(2, 0, 11);
+                t.rope(3, 1, 12);
+                t.rope(0, 3, 10);
             }
         }
         Due.tell(t, 0, "sail 1");
@@ -194,5 +222,65 @@ public final class PastTest {
         t.image(false);
         Due.is("as it was", all(t).equals(was), true);
         Due.is("orders too", t.look(13), 2);
+    }
+
+    /** What orders say, not only how many lines they have, is as it was when the image was taken. */
+    private static void imagesOfOrders() {
+        String[] claims = {"x=3", "y=4", "near=1", "tied=1", "not (x=5 or near=2)", "crust-tied=49", "village+near=1"};
+        for (String claim : claims) {
+            TownsUnderSail t = new TownsUnderSail();
+            t.village(3, 4, 1, 1, 0);
+            t.village(2, 5, 1, 1, 1);
+            t.rope(0, 1, 5);
+            t.seen(0, 6, 2, 17);
+            Due.tell(t, 0, "furl when hour>0; sail when " + claim + ";");
+            t.image(true);
+            Due.tell(t, 0, "furl when 1=1 or 2=2; furl when 3=3;");
+            t.seen(0, 1, 1, 3);
+            Due.is("other orders", t.hours(1), 0);
+            t.image(false);
+            Due.is("lines", t.look(10), 2);
+            Due.is("where it was seen", t.places(0, 0, 0), 206);
+            Due.is("the orders of the image: " + claim, t.hours(2), 1);
+            t.seen(0, 5, 7, 3);
+            t.image(true);
+            t.seen(0, 4, 4, 3);
+            Due.tell(t, 0, "");
+            t.image(false);
+            Due.is("where it was seen then", t.places(0, 0, 0), 705);
+            Due.is("lines", t.look(10), 2);
+            t.seen(0, 6, 6, 23);
+            t.wind(23, 4, 1, 0);
+            t.image(true);
+            t.seen(0, 6, 6, 0);
+            t.image(false);
+            Due.is("when it was seen", t.places(0, 1, 1), 706);
+        }
+    }
+
+    /** Numbers used once more on a new plain bring nothing along. */
+    private static void freshNumbers() {
+        TownsUnderSail t = new TownsUnderSail();
+        t.village(3, 3, 60, 3, 0);
+        t.village(3, 4, 1, 0, 0);
+        t.rope(0, 1, 1);
+        t.set(3, 0, 1);
+        Due.tell(t, 0, "sail;");
+        t.hours(3);
+        t.set(0, 0, 1);
+        Due.is("torn", t.tie(0, 3), 1);
+        Due.is("sunk", t.of(0, 10), 1);
+        Due.is("dry", t.of(0, 8), 1);
+        t.plain(8, 8);
+        t.village(5, 5, 7, 2, 3);
+        t.village(5, 6, 7, 2, 3);
+        int[] due = {5, 5, 7, 2, 3, 0, 0, 0, 0, 0, 0};
+        for (int i = 0; i < due.length; i++) {
+            Due.is("of(0, " + i + ")", t.of(0, i), due[i]);
+        }
+        Due.is("rope", t.rope(1, 0, 2), 0);
+        Due.is("not torn", t.tie(0, 3), 0);
+        Due.is("not met", t.met(0, 1), 0);
+        Due.is("no orders", t.hours(1), 0);
     }
 }

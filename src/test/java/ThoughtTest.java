@@ -119,6 +119,14 @@ public final class ThoughtTest {
         Due.is("just 48", t.meeting(0, 1), 48);
         t.set(1, 0, 1);
         Due.is("above 48", t.meeting(0, 1), -1);
+        TownsUnderSail u = new TownsUnderSail();
+        calm(u);
+        u.wind(0, 2, 1, 0);
+        u.village(0, 0, 0, 1, 0);
+        u.village(3, 0, 0, 0, 0);
+        u.village(4, 0, 0, 0, 0);
+        Due.is("hour 25", u.meeting(0, 1), 25);
+        Due.is("hour 49 is too late", u.meeting(0, 2), -1);
     }
 
     private static void markets() {
