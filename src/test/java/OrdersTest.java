@@ -201,6 +201,9 @@ public final class OrdersTest {
         goes("x=2 and y=4 or way=2 and force=2", true);
         goes("x=2 and (y=4 or way=2) and force=2", true);
         goes("x=2 and (y=4 or way=3) and force=2", false);
+        String deep = "x=9 or x=2 and(".repeat(8);
+        goes(deep + "x=9 or x=2 and 1+2*3=1+2*3" + ")".repeat(8), true);
+        goes(deep + "x=9 or x=2 and 1+2*3=1+2*4" + ")".repeat(8), false);
         lines("furl when x=3; sail when x=2; furl;", true);
         lines("furl when x=2; sail;", false);
         lines("sail when x=3; furl; sail;", false);
