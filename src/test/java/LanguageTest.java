@@ -139,9 +139,13 @@ public final class LanguageTest {
         long made = threads.getThreadAllocatedBytes(me) - before;
         Due.is("bytes of a new object: " + made, made < 80000, true);
         sum += everything(t);
+        TownsUnderSail[] more = new TownsUnderSail[20];
+        for (int i = 0; i < more.length; i++) {
+            more[i] = new TownsUnderSail();
+        }
         before = threads.getThreadAllocatedBytes(me);
-        for (int i = 0; i < 20; i++) {
-            sum += everything(t);
+        for (TownsUnderSail one : more) {
+            sum += everything(one);
         }
         made = threads.getThreadAllocatedBytes(me) - before;
         Due.is("bytes that calls made: " + made, made < 4096, true);

@@ -35,63 +35,37 @@ public final class PastTest {
         return t;
     }
 
-    /** All that can be asked of what an hour changes, as one text. */
-    private static String all(TownsUnderSail t) {
-        StringBuilder b = new StringBuilder();
-        for (int what = 0; what < 92; what++) {
-            b.append(what == 7 ? 0 : t.look(what)).append(' ');
-        }
-        for (int v = 0; v < 10; v++) {
-            for (int what = 0; what <= 10; what++) {
-                b.append(t.of(v, what)).append(' ');
-            }
-            for (int w = 0; w < 10; w++) {
-                b.append(t.met(v, w)).append(' ');
-            }
-            b.append(t.places(v, 3, -1)).append(' ').append(t.places(v, 3, 1)).append(' ');
-        }
-        for (int r = 0; r < 20; r++) {
-            for (int what = 0; what < 4; what++) {
-                b.append(t.tie(r, what)).append(' ');
-            }
-        }
-        for (int c = 0; c < 144; c++) {
-            for (int what = 0; what < 3; what++) {
-                b.append(t.at(c % 12, c / 12, what)).append(' ');
-            }
-        }
-        return b.toString();
+    private static TownsUnderSail busy(int hours) {
+        TownsUnderSail t = busy();
+        t.hours(hours);
+        return t;
     }
 
     private static void undone() {
-        TownsUnderSail t = busy();
-        String[] were = new String[20];
+        TownsUnderSail many = busy();
         for (int i = 0; i < 20; i++) {
-            were[i] = all(t);
-            t.hours(1);
+            many.hours(1);
         }
-        Due.is("six", t.look(7), 6);
-        for (int i = 19; i >= 14; i--) {
-            Due.is("undo " + i, t.undo(), true);
-            Due.is("as it was at " + i, all(t).equals(were[i]), true);
-            Due.is("left", t.look(7), i - 14);
+        Due.is("six", many.look(7), 6);
+        Due.is("in one call as in many", Whole.of(busy(20)).equals(Whole.of(many)), true);
+        for (int back = 1; back <= 6; back++) {
+            TownsUnderSail t = busy(20);
+            for (int i = 0; i < back; i++) {
+                Due.is("undo " + i, t.undo(), true);
+            }
+            Due.is("left", t.look(7), 6 - back);
+            Due.is("as it was " + back + " ago", Whole.of(t).equals(Whole.of(busy(20 - back))), true);
         }
-        Due.is("no more", t.undo(), false);
-        t.hours(6);
-        String later = all(t);
+        TownsUnderSail t = busy(20);
         t.undo();
         t.undo();
         t.hours(2);
-        Due.is("the same again", all(t).equals(later), true);
         Due.is("six again", t.look(7), 6);
-        TownsUnderSail u = busy();
-        u.hours(20);
-        Due.is("in one call as in many", all(u).equals(later), true);
-        for (int i = 19; i >= 14; i--) {
-            Due.is("undo " + i, u.undo(), true);
-            Due.is("as it was at " + i, all(u).equals(were[i]), true);
+        Due.is("the same again", Whole.of(t).equals(Whole.of(busy(20))), true);
+        for (int i = 0; i < 6; i++) {
+            Due.is("undo " + i, t.undo(), true);
         }
-        Due.is("no more", u.undo(), false);
+        Due.is("no more", t.undo(), false);
     }
 
     private static void tornUndone() {
@@ -179,27 +153,19 @@ public final class PastTest {
         Due.is("orders stay", t.look(10), 1);
     }
 
-    private static void images() {
+    /** An image of the fifth hour, from which much is told until it is gone back to as often as asked. */
+    private static TownsUnderSail back(int often) {
         TownsUnderSail t = busy();
         Due.is("none", t.image(false), false);
         t.seen(1, 2, 2, 5);
         t.hours(5);
         Due.is("taken", t.image(true), true);
-        String was = all(t);
-        t.hours(7);
-        String later = all(t);
-        for (int i = 0; i < 3; i++) {
-            Due.is("back", t.image(false), true);
-            Due.is("as it was", all(t).equals(was), true);
-            Due.is("nothing to undo", t.look(7), 0);
-            Due.is("undo", t.undo(), false);
+        for (int i = 0; i < often; i++) {
             t.hours(7);
-            Due.is("all goes on", all(t).equals(later), true);
-            Due.tell(t, 0, "furl;sail;");
-            Due.tell(t, 2, "sail;sail;sail;");
             t.set(2, 0, 99);
             t.seen(1, 5, 5, 5);
             t.state(1);
+            Due.tell(t, 2, "sail;sail;sail;");
             if (i == 1) {
                 t.plain(12, 12);
                 for (int v = 0; v < 4; v++) {
@@ -209,7 +175,25 @@ public final class PastTest {
                 t.rope(3, 1, 12);
                 t.rope(0, 3, 10);
             }
+            Due.is("back", t.image(false), true);
+            Due.is("nothing to undo", t.look(7), 0);
+            Due.is("undo", t.undo(), false);
         }
+        return t;
+    }
+
+    private static void images() {
+        String was = Whole.of(back(0));
+        TownsUnderSail on = back(0);
+        on.hours(7);
+        String later = Whole.of(on);
+        for (int often = 1; often <= 3; often++) {
+            Due.is("as it was", Whole.of(back(often)).equals(was), true);
+            TownsUnderSail t = back(often);
+            t.hours(7);
+            Due.is("all goes on", Whole.of(t).equals(later), true);
+        }
+        TownsUnderSail t = back(1);
         Due.tell(t, 0, "sail 1");
         Due.feed(t, "furl;furl;");
         t.image(false);
@@ -217,10 +201,9 @@ public final class PastTest {
         Due.is("its place stays", t.fault(1), 5);
         Due.is("the tape stays", t.text(3), 2);
         Due.is("taken anew", t.image(true), true);
-        was = all(t);
         t.hours(1);
         t.image(false);
-        Due.is("as it was", all(t).equals(was), true);
+        Due.is("TIME of the new one", t.look(2), 5);
         Due.is("orders too", t.look(13), 2);
     }
 

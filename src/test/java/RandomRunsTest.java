@@ -2,6 +2,10 @@ import java.util.Random;
 
 /** All promises: long runs of calls, the same on the class and on the naive towns, compared call by call. */
 public final class RandomRunsTest {
+    /** The document promises nothing of an object's later calls. */
+    private static final int MOST_CALLS = 512;
+    /** More than any step of a run asks. */
+    private static final int MOST_AT_ONCE = 100;
     private static final String[] WORDS = {"sail", "furl", "when", "or", "and", "not", "x", "y", "way", "force", "hour",
         "thirst", "crust", "near", "tied", "village", ";", "+", "-", "*", "/", "(", ")", "<", "=", ">", "0", "1", "7",
         "12", "9999", "12345", "Sail", "z", ",", "\n", "  ", "\t", "\u00e9"};
@@ -11,6 +15,7 @@ public final class RandomRunsTest {
     private final TownsUnderSail t = new TownsUnderSail();
     private final NaiveTowns n = new NaiveTowns();
     private final String run;
+    private int calls;
 
     private RandomRunsTest(int seed) {
         random = new Random(seed);
@@ -18,7 +23,7 @@ public final class RandomRunsTest {
     }
 
     public static void main(String[] args) {
-        int runs = args.length > 0 ? Integer.parseInt(args[0]) : 400;
+        int runs = args.length > 0 ? Integer.parseInt(args[0]) : 900;
         for (int seed = 0; seed < runs; seed++) {
             new RandomRunsTest(seed).go();
         }
@@ -29,9 +34,13 @@ public final class RandomRunsTest {
         if (random.nextInt(4) > 0) {
             prepare();
         }
-        for (int i = 0; i < 400; i++) {
+        while (calls <= MOST_CALLS - MOST_AT_ONCE) {
             call(random.nextInt(60));
         }
+        for (int v = 0; v < n.look(3) && calls < MOST_CALLS; v++) {
+            same("of(" + v + ", 9)", t.of(v, 9), n.of(v, 9));
+        }
+        Due.is(run + "an object bears so many calls", calls <= MOST_CALLS, true);
     }
 
     private void prepare() {
@@ -80,10 +89,12 @@ public final class RandomRunsTest {
     }
 
     private void same(String call, long got, long want) {
+        calls++;
         Due.is(run + call, got, want);
     }
 
     private void same(String call, boolean got, boolean want) {
+        calls++;
         Due.is(run + call, got, want);
     }
 
