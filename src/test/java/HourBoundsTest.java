@@ -547,6 +547,12 @@ public final class HourBoundsTest {
                 Due.is("near by " + dx + ", " + dy, t.hours(2), 0);
                 Due.is("met by " + dx + ", " + dy, t.met(0, 1), near ? 2 : 0);
                 Due.is("met by " + dx + ", " + dy, t.met(1, 0), near ? 2 : 0);
+                Due.tell(t, 0, "furl;");
+                Due.tell(t, 1, "sail when near=" + (near ? 1 : 0) + " and tied=0; furl;");
+                t.set(1, 1, 1);
+                t.wind(2, dy < 0 ? 4 : 0, 1, 0);
+                boolean blocked = dx == 0 && Math.abs(dy) == 1;
+                Due.is("the second one's near by " + dx + ", " + dy, t.hours(1), blocked ? 0 : 1);
             }
         }
         TownsUnderSail t = sailing(8, 8);
@@ -587,11 +593,32 @@ public final class HourBoundsTest {
             Due.is("a well in the corner", t.of(0, 7), 0);
             Due.is("none round the edge", t.of(1, 7), 1);
         }
+        int[][] sides = {{12, 12}, {12, 3}, {3, 12}, {5, 4}};
+        for (int[] s : sides) {
+            wellsRoundCorner(s[0], s[1], 0, 0);
+            wellsRoundCorner(s[0], s[1], s[0] - 1, 0);
+            wellsRoundCorner(s[0], s[1], 0, s[1] - 1);
+            wellsRoundCorner(s[0], s[1], s[0] - 1, s[1] - 1);
+        }
         TownsUnderSail t = sailing(8, 8);
         t.village(4, 6, 0, 1, 0);
         t.well(4, 4, true);
         t.hours(1);
         Due.is("THIRST behind the steps", t.of(0, 7), 0);
+    }
+
+    private static void wellsRoundCorner(int w, int h, int x, int y) {
+        for (int wx = 0; wx < w; wx++) {
+            for (int wy = 0; wy < h; wy++) {
+                TownsUnderSail t = new TownsUnderSail();
+                t.plain(w, h);
+                t.village(x, y, 0, 0, 0);
+                t.well(wx, wy, true);
+                t.hours(1);
+                boolean near = Math.abs(x - wx) <= 1 && Math.abs(y - wy) <= 1;
+                Due.is("a well at " + wx + ", " + wy + " from " + x + ", " + y, t.of(0, 7), near ? 0 : 1);
+            }
+        }
     }
 
     /** "at LIMIT and 1 DRY is one more (THIRST goes on)". */
@@ -704,8 +731,10 @@ public final class HourBoundsTest {
         }
         int[] due = {2, 1, 2};
         for (int what = 0; what < 3; what++) {
-            Due.is("tie(1, " + what + ")", t.tie(1, what), due[what]);
+            Due.is("tie(0, " + what + ")", t.tie(0, what), due[what]);
         }
+        Due.is("torn", t.tie(0, 3), 1);
+        Due.is("not torn", t.tie(1, 3), 0);
     }
 
     /** "2 the VILLAGE (NONE). NONE - 1 if there is none such, or another what." */

@@ -9,6 +9,7 @@ public final class PastBoundsTest {
         sixAreKept();
         nothingToUndo();
         allGoesBack();
+        allRopesGoBack();
         undoneAndGoneOn();
         inOneCallAsInMany();
         forgets();
@@ -26,8 +27,7 @@ public final class PastBoundsTest {
     }
 
     private static TownsUnderSail later(int hours) {
-        TownsUnderSail t = Whole.small();
-        t.image(false);
+        TownsUnderSail t = Whole.start();
         if (hours > 0) {
             t.hours(hours);
         }
@@ -87,6 +87,25 @@ public final class PastBoundsTest {
                 }
                 Due.is("back by " + back + " from " + n, Whole.of(t).equals(Whole.of(later(n - back))), true);
             }
+        }
+    }
+
+    /** All of twenty ropes that an hour tore are whole again. */
+    private static void allRopesGoBack() {
+        TownsUnderSail t = new TownsUnderSail();
+        t.village(3, 3, 9, 1, 0);
+        t.village(3, 4, 1, 0, 1);
+        for (int r = 0; r < 20; r++) {
+            t.rope(r % 2, 1 - r % 2, r % 3 == 0 ? 2 : 1);
+        }
+        Due.tell(t, 0, "sail;");
+        Due.is("two hours", t.hours(2), 2);
+        for (int back = 0; back <= 2; back++) {
+            for (int r = 0; r < 20; r++) {
+                boolean torn = back == 0 || back == 1 && r % 3 != 0;
+                Due.is("rope " + r + " " + back + " back", t.tie(r, 3), torn ? 1 : 0);
+            }
+            Due.is("undo", t.undo(), back < 2);
         }
     }
 
@@ -273,6 +292,24 @@ public final class PastBoundsTest {
         changed("seen", t -> t.seen(1, 0, 0, 0));
         changed("seen at last", t -> t.seen(0, 0, 0, 0));
         changed("state", t -> t.state(4));
+        changed("texts", PastBoundsTest::tellOtherTexts);
+        changed("texts of near and tied", PastBoundsTest::tellTextsTwice);
+    }
+
+    /** The faulty one at last, so that fault() is as it was. */
+    private static void tellOtherTexts(TownsUnderSail t) {
+        Due.tell(t, 0, "furl when x=1;furl;sail;");
+        Due.tell(t, 1, "");
+        Due.tell(t, 2, "furl when 1=1 or 2=2;sail;");
+        Due.tell(t, 3, "sail 1");
+    }
+
+    private static void tellTextsTwice(TownsUnderSail t) {
+        for (int i = 0; i < 2; i++) {
+            Due.tell(t, 2, "furl;");
+            Due.tell(t, 0, "sail when tied<1 or near>0;");
+        }
+        Due.tell(t, 3, "sail 1");
     }
 
     /** "but the TAPE, fault() and what can be undone (nothing then)"; orders are held, what the latest text was is not. */
@@ -299,6 +336,7 @@ public final class PastBoundsTest {
     /** "gone back to it may be more than once". */
     private static void backMoreThanOnce() {
         TownsUnderSail t = later(0);
+        t.image(true);
         for (int i = 0; i < 5; i++) {
             Due.is("steps", t.hours(9), later(0).hours(9));
             t.set(2, 0, 30 + i);
@@ -331,7 +369,14 @@ public final class PastBoundsTest {
     private static void imageAndPlain() {
         TownsUnderSail t = Whole.small();
         t.plain(12, 3);
-        t.village(11, 2, 1, 1, 1);
+        for (int v = 0; v < 4; v++) {
+            t.village(11 - v, 2, v, 0, 3);
+            t.set(0, v, 1);
+            t.seen(v, v, 0, 3);
+        }
+        for (int r = 0; r < 4; r++) {
+            t.rope(r, (r + 1) % 4, 12);
+        }
         Due.is("an image outlasts a new plain", t.image(false), true);
         Due.is("W", t.look(0), 5);
         Due.is("H", t.look(1), 4);
@@ -356,6 +401,12 @@ public final class PastBoundsTest {
         t.hours(2);
         t.image(true);
         t.plain(3, 3);
+        for (int v = 0; v < 9; v++) {
+            t.village(v % 3, v / 3, 50 + v, 0, 1);
+        }
+        for (int r = 0; r < 20; r++) {
+            t.rope(r % 2, 2 + r % 3, 7);
+        }
         t.hours(1);
         Due.is("back", t.image(false), true);
         Due.is("the last cell", t.at(11, 11, 0), 3);
@@ -364,7 +415,11 @@ public final class PastBoundsTest {
         Due.is("ten", t.look(3), 10);
         Due.is("the tenth", t.of(9, 2), 9);
         Due.is("twenty", t.look(4), 20);
-        Due.is("the twentieth", t.tie(19, 0), 2);
+        for (int r = 0; r < 20; r++) {
+            Due.is("the one of rope " + r, t.tie(r, 0), r % 9 + 1);
+            Due.is("the other of rope " + r, t.tie(r, 1), 0);
+            Due.is("its length", t.tie(r, 2), 12);
+        }
         Due.is("met", t.met(8, 9), 2);
         Due.is("seen", t.places(9, 0, 0), 1111);
     }

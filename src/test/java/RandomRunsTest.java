@@ -23,7 +23,7 @@ public final class RandomRunsTest {
     }
 
     public static void main(String[] args) {
-        int runs = args.length > 0 ? Integer.parseInt(args[0]) : 900;
+        int runs = args.length > 0 ? Integer.parseInt(args[0]) : 3000;
         for (int seed = 0; seed < runs; seed++) {
             new RandomRunsTest(seed).go();
         }

@@ -37,6 +37,23 @@ public final class TellingBoundsTest {
         Due.is("y 8", t.at(7, 8, 0), -2);
         Due.is("nobody", t.of(0, 0), -2);
         Due.is("no rope", t.tie(0, 0), -1);
+        int[] first = {8, 8, 0, 0, 0, 0, 24, 0};
+        for (int i = 0; i < first.length; i++) {
+            Due.is("look(" + i + ") at first", t.look(i), first[i]);
+        }
+        for (int h = 0; h < 24; h++) {
+            Due.is("WAY at first", t.look(20 + 3 * h), 0);
+            Due.is("FORCE at first", t.look(21 + 3 * h), 1);
+            Due.is("SHIFT at first", t.look(22 + 3 * h), 0);
+        }
+        for (int k = 0; k < 4; k++) {
+            Due.is("lines at first", t.look(10 + k), 0);
+        }
+        for (int c = 0; c < 64; c++) {
+            Due.is("CRUST at first", t.at(c % 8, c / 8, 0), 50);
+            Due.is("no WELL at first", t.at(c % 8, c / 8, 1), 0);
+            Due.is("nobody at first", t.at(c % 8, c / 8, 2), -1);
+        }
         Due.is("STATE, an int, 0 at first", t.state(MIN), 0);
         Due.is("the least int", t.state(MAX), MIN);
         Due.is("the greatest int", t.state(0), MAX);
@@ -101,13 +118,18 @@ public final class TellingBoundsTest {
         int[][] sides = {{5, 4}, {4, 5}, {12, 3}};
         for (int[] s : sides) {
             TownsUnderSail t = Whole.small();
+            t.set(0, 0, 1);
             int state = t.look(5);
             Due.is("told anew", t.plain(s[0], s[1]), true);
             TownsUnderSail fresh = new TownsUnderSail();
             fresh.plain(s[0], s[1]);
             fresh.state(state);
             Due.tell(fresh, 3, "sail 1");
+            tellThree(t);
+            tellThree(fresh);
             Due.is("all is as at first", Whole.of(t).equals(Whole.of(fresh)), true);
+            t = Whole.small();
+            t.plain(s[0], s[1]);
             Due.is("nothing to undo", t.look(7), 0);
             Due.is("nothing to undo", t.undo(), false);
             Due.is("the tape stays", t.end(6), false);
@@ -115,6 +137,15 @@ public final class TellingBoundsTest {
             Due.is("the image stays", t.image(false), true);
             Due.is("H of the image", t.look(1), 4);
         }
+    }
+
+    /** Numbers that had another village or rope ahead of that bring nothing along. */
+    private static void tellThree(TownsUnderSail t) {
+        for (int v = 0; v < 3; v++) {
+            Due.is("village " + v, t.village(v, 2 - v, 7, 1, v), v);
+        }
+        Due.is("rope 0", t.rope(2, 0, 2), 0);
+        Due.is("rope 1", t.rope(0, 1, 3), 1);
     }
 
     /** "CRUST 0 .. 99"; "false if one can't be". */

@@ -13,6 +13,7 @@ public final class TextBoundsTest {
         ends();
         noSuchKind();
         emptyTexts();
+        manyTexts();
         faultyTexts();
         faultOfTheLatest();
         lines();
@@ -77,6 +78,10 @@ public final class TextBoundsTest {
         Due.is("no fault", t.fault(0), 0);
         Due.is("a full tape of lines", Due.tell(t, 2, "furl;" + " ".repeat(394) + "x"), -1);
         Due.is("all 400 bytes are read", t.fault(1), 399);
+        Due.is("a tape of 400 tokens", Due.tell(t, 2, ";".repeat(400)), -1);
+        Due.is("the first can't stand there", t.fault(1), 0);
+        Due.is("a tape of 399 tokens", Due.tell(t, 2, "(".repeat(399)), -1);
+        Due.is("the first can't stand there", t.fault(1), 0);
     }
 
     private static void fill(TownsUnderSail t, int length) {
@@ -92,11 +97,20 @@ public final class TextBoundsTest {
         String text = "furl;sail;furl;sail;";
         for (int cut = 0; cut <= 20; cut++) {
             TownsUnderSail t = new TownsUnderSail();
-            Due.feed(t, text.substring(0, cut));
+            Due.feed(t, text);
+            Due.is("end(" + cut + ")", t.end(cut), true);
             Due.is("text of " + cut, t.text(1), cut % 5 == 0 ? cut / 5 : -1);
             Due.is("fault of " + cut, t.fault(1), cut % 5 == 0 ? -1 : cut % 5 == 4 ? cut : cut - cut % 5);
         }
         TownsUnderSail t = new TownsUnderSail();
+        Due.feed(t, "furl;sailing");
+        t.end(9);
+        Due.is("a word's end is cut off", t.text(0), -1);
+        Due.is("what was told of it stands", t.fault(1), 9);
+        Due.feed(t, "sail when x=12345;");
+        t.end(16);
+        Due.is("a number's end is cut off", t.text(0), -1);
+        Due.is("what was told of it stands", t.fault(1), 16);
         Due.is("feed", t.feed(0x66, 0x75000000, 0, 0, 0), 20);
         Due.is("a byte of 0 is none", t.text(0), -1);
         Due.is("the lowest comes last", t.fault(1), 0);
@@ -175,6 +189,31 @@ public final class TextBoundsTest {
         Due.is("sail", t.hours(1), 1);
         t.text(0);
         Due.is("none again: furl", t.hours(1), 0);
+        for (int i = 0; i < 4; i++) {
+            Due.tell(t, 0, "furl when x=9;sail;");
+        }
+        for (int i = 0; i < 4; i++) {
+            Due.tell(t, 0, "furl when x=9;");
+            Due.is("a line that is told no more", t.hours(1), 0);
+        }
+        for (int i = 0; i < 4; i++) {
+            t.text(0);
+            Due.is("none again: furl", t.hours(1), 0);
+        }
+    }
+
+    /** Long texts told one behind the other, of one KIND and of all: each is told as if it were the first. */
+    private static void manyTexts() {
+        TownsUnderSail t = new TownsUnderSail();
+        t.village(4, 7, 0, 1, 0);
+        String sum = "+1".repeat(90);
+        for (int i = 0; i < 12; i++) {
+            Due.is("a long text", Due.tell(t, i % 4, "furl when x=4" + sum + ";sail when x=" + (i % 2) + sum + ";"), 2);
+            Due.is("lines", t.look(10 + i % 4), 2);
+            Due.is("a long text", Due.tell(t, 0, "sail when x=" + (i % 2 == 0 ? 4 : 5) + "*1".repeat(90) + ";"), 1);
+            Due.is("the latest is so", t.hours(1), i % 2 == 0 ? 1 : 0);
+        }
+        Due.is("it went", t.of(0, 1), 1);
     }
 
     /** "or a FAULT (it stays as it was)": the orders go on as they were, the tape is empty. */
@@ -298,6 +337,18 @@ public final class TextBoundsTest {
         fault("sail when (x=1));", 1, 15);
         fault("sail when ((x=1);", 1, 16);
         fault("sail when ();", 1, 11);
+        fault("sail when x;", 1, 11);
+        fault("sail when x+1 and x=1;", 1, 14);
+        fault("sail when (x)<1;", 1, 12);
+        fault("sail when 1=1=1;", 1, 13);
+        fault("sail when x=1 y=1;", 1, 14);
+        fault("sail when x=1 when x=1;", 1, 14);
+        fault("sail when x=+1;", 1, 12);
+        fault("sail when -x=1;", 1, 10);
+        fault("sail when x=1+;", 1, 14);
+        fault("sail when x=1*;", 1, 14);
+        fault("sail when x=1 and;", 1, 17);
+        fault("sail when x=1 or;", 1, 16);
         fault("sail when not ;", 1, 14);
     }
 
@@ -490,6 +541,21 @@ public final class TextBoundsTest {
         so("(x=4 or x=5) and x=6", false);
         so("not x=5 and x=6", false);
         so("not (x=5 and x=6)", true);
+        so("not x=4", false);
+        so("not x=5", true);
+        so("not not x=4", true);
+        so("not not x=5", false);
+        so("not x=5 and x=4", true);
+        so("x=4 and not x=5", true);
+        so("x=5 and x=4", false);
+        so("x=4 and x=5", false);
+        so("x=5 or x=4", true);
+        so("x=5 or x=6", false);
+        so("x<5 and y=4", true);
+        so("x>3 and y<5", true);
+        so("x=4 and y>3", true);
+        so("x<5 and not y>4 and y=4", true);
+        so("near=0 and tied=0 and village=0", true);
         so("not x=4 or x=4", true);
         so("not not not x=5", true);
         so("2+3*4=14", true);

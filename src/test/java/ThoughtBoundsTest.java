@@ -14,9 +14,11 @@ public final class ThoughtBoundsTest {
         soonRoundTheDay();
         soonAtTheLastTime();
         soonAlone();
+        narrowPlains();
         soonByKind();
         soonEdges();
         crustAndWeight();
+        weakCells();
         nothingWears();
         stuckTillDug();
         askMeeting();
@@ -25,6 +27,7 @@ public final class ThoughtBoundsTest {
         meetingFromNow();
         askMarket();
         marketWithin();
+        fromTimeOn();
         marketFirst();
         marketOfTen();
         askOdds();
@@ -37,6 +40,7 @@ public final class ThoughtBoundsTest {
         askPlaces();
         placesHours();
         placesOfShift();
+        placesOfOneHour();
         placesInOrder();
         placesStuck();
         nothingIsDone();
@@ -171,6 +175,40 @@ public final class ThoughtBoundsTest {
         Due.is("odds", t.odds(0, 4, 1, 1), 0);
     }
 
+    /** Cells with an x or y that the other one could not be. */
+    private static void narrowPlains() {
+        int[][] sides = {{3, 12}, {12, 3}, {4, 5}, {5, 4}};
+        for (int[] s : sides) {
+            int x = s[0] - 1;
+            int y = s[1] - 1;
+            TownsUnderSail t = calm(s[0], s[1]);
+            t.village(x - 1, y - 1, 50, 1, 0);
+            t.village(0, 0, 50, 1, 0);
+            t.wind(0, 3, 1, 0);
+            t.seen(0, x - 1, y - 1, 0);
+            String what = "on " + s[0] + " by " + s[1];
+            Due.is(what + ": soon, there", t.soon(0, x - 1, y - 1), 0);
+            Due.is(what + ": soon", t.soon(0, x, y), 1);
+            Due.is(what + ": soon, beyond W", t.soon(0, x + 1, y), -1);
+            Due.is(what + ": soon, beyond H", t.soon(0, x, y + 1), -1);
+            Due.is(what + ": odds, there", t.odds(0, x - 1, y - 1, 0), 1);
+            Due.is(what + ": odds", t.odds(0, x, y, 1), 10);
+            Due.is(what + ": odds to stay", t.odds(0, x - 1, y - 1, 3), 1000);
+            Due.is(what + ": odds, beyond W", t.odds(0, x + 1, y, 1), -1);
+            Due.is(what + ": odds, beyond H", t.odds(0, x, y + 1, 1), -1);
+            Due.is(what + ": seen, beyond W", t.seen(0, x + 1, y, 1), false);
+            Due.is(what + ": seen, beyond H", t.seen(0, x, y + 1, 1), false);
+            Due.is(what + ": places", t.places(0, 1, -1), 2);
+            Due.is(what + ": the last", t.places(0, 1, 1), 100 * y + x);
+            t.village(x, y, 0, 0, 0);
+            Due.is(what + ": market", t.market(1, 0), 2);
+            Due.is(what + ": its x", t.market(1, 1), x);
+            Due.is(what + ": its y", t.market(1, 2), y);
+            t.crust(x, y, 49);
+            Due.is(what + ": it can't", t.soon(0, x, y), -1);
+        }
+    }
+
     /** In thought a village makes as many steps as an hour lets it. */
     private static void soonByKind() {
         for (int way = 0; way < 8; way++) {
@@ -237,6 +275,35 @@ public final class ThoughtBoundsTest {
             t.crust(0, 1, 0);
             Due.is(what + ": where it stands is not asked", t.soon(0, 3, 1), bears ? 1 : -1);
         }
+    }
+
+    /** A cell that bears too little, wherever it lies and whichever way leads to it. */
+    private static void weakCells() {
+        int[][] cells = {{0, 0}, {11, 0}, {0, 11}, {11, 11}, {0, 5}, {11, 6}, {4, 0}, {7, 11}, {6, 6}};
+        for (int[] c : cells) {
+            for (int way = 0; way < 8; way++) {
+                int x = c[0] - DX[way];
+                int y = c[1] - DY[way];
+                if (x >= 0 && x < 12 && y >= 0 && y < 12) {
+                    weakCell(c[0], c[1], way);
+                }
+            }
+        }
+    }
+
+    private static void weakCell(int x, int y, int way) {
+        TownsUnderSail t = calm(12, 12);
+        t.village(x - DX[way], y - DY[way], 50, 1, 0);
+        t.wind(0, way, 1, 0);
+        t.seen(0, x - DX[way], y - DY[way], 0);
+        String what = "by way " + way + " to " + x + ", " + y;
+        Due.is(what + " it can", t.soon(0, x, y), 1);
+        Due.is(what + " it can", t.odds(0, x, y, 1), 10);
+        Due.is(what + " it can", t.places(0, 1, -1), 2);
+        t.crust(x, y, 49);
+        Due.is(what + " it can't", t.soon(0, x, y), -1);
+        Due.is(what + " it can't", t.odds(0, x, y, 1), 0);
+        Due.is(what + " it can't", t.places(0, 1, -1), 1);
     }
 
     /** "CRUST as it is now (nothing wears)": it goes back over the cell that it left. */
@@ -323,6 +390,15 @@ public final class ThoughtBoundsTest {
                 Due.is("FAR by " + dx + ", " + dy, t.meeting(1, 0), near ? 0 : -1);
             }
         }
+        int[][] near = {{0, 0, 1, 1}, {11, 11, 10, 10}, {11, 10, 11, 11}, {0, 11, 1, 10}, {11, 0, 10, 1}, {5, 11, 6, 10},
+            {0, 0, 1, 0}, {0, 0, 0, 1}};
+        for (int[] e : near) {
+            TownsUnderSail t = calm(12, 12);
+            t.village(e[0], e[1], 0, 0, 0);
+            t.village(e[2], e[3], 0, 0, 0);
+            Due.is("near in a corner", t.meeting(0, 1), 0);
+            Due.is("near in a corner", t.meeting(1, 0), 0);
+        }
         int[][] ends = {{0, 0, 11, 0}, {0, 5, 11, 5}, {0, 5, 11, 6}, {11, 4, 0, 5}, {3, 0, 3, 11}, {0, 0, 11, 11}};
         for (int[] e : ends) {
             TownsUnderSail t = calm(12, 12);
@@ -402,9 +478,31 @@ public final class ThoughtBoundsTest {
         Due.is("where the crust is less it can't come to", t.market(24, 0), 1);
     }
 
+    /** Hours gone by are not thought of, neither the latest nor those of the day before. */
+    private static void fromTimeOn() {
+        for (int time = 1; time <= 25; time += 12) {
+            TownsUnderSail t = calm(12, 3);
+            t.village(5, 1, 0, 1, 0);
+            t.village(6, 1, 0, 0, 0);
+            t.village(7, 1, 0, 0, 0);
+            t.hours(time);
+            t.wind((time - 1) % 24, 2, 1, 0);
+            Due.is("market of 0", t.market(0, 0), 1);
+            Due.is("market of 23", t.market(23, 0), 1);
+            Due.is("market of 24", t.market(24, 0), 2);
+            Due.is("soon", t.soon(0, 6, 1), 24);
+            Due.is("meeting", t.meeting(0, 2), 24);
+            Due.is("odds", t.odds(0, 6, 1, 12), 0);
+            t.seen(0, 5, 1, time);
+            Due.is("places of 23", t.places(0, 23, -1), 1);
+            Due.is("places of 24", t.places(0, 24, -1), 2);
+        }
+    }
+
     /** "of several the first (y, then x)". */
     private static void marketFirst() {
-        int[][] pairs = {{3, 0, 0, 1, 3, 0}, {0, 1, 3, 0, 3, 0}, {2, 1, 4, 1, 2, 1}, {4, 2, 2, 2, 2, 2}, {0, 2, 4, 1, 4, 1}};
+        int[][] pairs = {{0, 0, 1, 0, 0, 0}, {1, 0, 0, 0, 0, 0}, {1, 0, 2, 0, 1, 0}, {0, 1, 4, 2, 0, 1}, {0, 2, 4, 2, 0, 2},
+            {3, 0, 0, 1, 3, 0}, {0, 1, 3, 0, 3, 0}, {2, 1, 4, 1, 2, 1}, {4, 2, 2, 2, 2, 2}, {0, 2, 4, 1, 4, 1}};
         for (int[] p : pairs) {
             TownsUnderSail t = calm(5, 3);
             t.village(p[0], p[1], 0, 0, 0);
@@ -639,6 +737,21 @@ public final class ThoughtBoundsTest {
                 Due.is("straight by " + way + " " + shift, holds(t, straight), shift < 10);
                 Due.is("shifted by " + way + " " + shift, holds(t, shifted), shift > 0);
                 Due.is("it can have stayed", holds(t, 101), true);
+            }
+        }
+    }
+
+    /** One way or the other in an hour, not both. */
+    private static void placesOfOneHour() {
+        for (int way = 0; way < 8; way++) {
+            for (int steps = 1; steps <= 2; steps++) {
+                TownsUnderSail t = calm(12, 12);
+                t.village(0, 0, 0, steps, 0);
+                t.wind(5, way, 3, 5);
+                t.seen(0, 5, 5, 5);
+                Due.is("here or by one of two ways, " + way, t.places(0, 1, -1), 3);
+                t.wind(6, way, 3, 5);
+                Due.is("two hours, " + way, t.places(0, 2, -1), 6);
             }
         }
     }

@@ -8,26 +8,36 @@ final class Whole {
 
     /** A small plain on which much was told and four hours went by, with an image, a fault and a tape of five bytes. */
     static TownsUnderSail small() {
+        TownsUnderSail t = start();
+        t.image(true);
+        t.hours(4);
+        return t;
+    }
+
+    /** The same ahead of the image and the hours, in which ropes tear and hold, one sinks and all are dry. */
+    static TownsUnderSail start() {
         TownsUnderSail t = new TownsUnderSail();
         t.plain(5, 4);
         t.village(1, 3, 10, 2, 0);
         t.village(3, 3, 20, 3, 1);
-        t.village(4, 1, 5, 1, 2);
-        t.rope(0, 1, 3);
+        t.village(4, 1, 15, 1, 2);
         t.rope(2, 1, 2);
+        t.rope(0, 1, 3);
         t.well(0, 0, true);
         t.crust(2, 2, 15);
+        t.crust(4, 2, 14);
         t.wind(0, 1, 2, 4);
         t.wind(1, 7, 1, 10);
         t.wind(2, 4, 3, 0);
+        t.wind(5, 6, 2, 3);
+        t.wind(6, 5, 3, 6);
+        t.wind(7, 6, 3, 0);
         t.set(3, 0, 2);
-        t.seen(1, 2, 2, 5);
+        t.seen(1, 2, 1, 5);
         t.state(99);
         Due.tell(t, 0, "sail;");
         Due.tell(t, 1, "furl when hour>9; sail;");
-        Due.tell(t, 2, "sail when near<3;");
-        t.image(true);
-        t.hours(4);
+        Due.tell(t, 2, "sail when near>0 or tied>0;");
         Due.tell(t, 3, "sail 1");
         Due.feed(t, "furl;");
         return t;
