@@ -44,7 +44,8 @@ public final class RandomRunsTest {
     }
 
     private void prepare() {
-        tellPlain(3 + random.nextInt(10), 3 + random.nextInt(10));
+        int sides = random.nextBoolean() ? 3 : 10;
+        tellPlain(3 + random.nextInt(sides), 3 + random.nextInt(sides));
         int towns = 1 + random.nextInt(10);
         for (int i = 0; i < towns; i++) {
             tellVillage();
@@ -58,7 +59,20 @@ public final class RandomRunsTest {
         for (int kind = 0; kind < 4; kind++) {
             tellText(kind);
         }
+        for (int i = random.nextInt(10); i > 0; i--) {
+            tell(random.nextInt(2));
+        }
         state(random.nextInt());
+        if (random.nextInt(20) == 0) {
+            goToLastDays();
+        }
+    }
+
+    /** TIME 9840 of 9999, from which most calls of hours can't be. */
+    private void goToLastDays() {
+        for (int i = 0; i < 41; i++) {
+            same("hours(240)", t.hours(240), n.hours(240));
+        }
     }
 
     /** Mostly within what can be, now and then just or far outside. */
@@ -218,7 +232,9 @@ public final class RandomRunsTest {
             int hours = random.nextInt(10) == 0 ? some(1, 240) : some(1, 9);
             same("hours(" + hours + ")", t.hours(hours), n.hours(hours));
         } else if (which < 14) {
-            same("undo()", t.undo(), n.undo());
+            for (int i = random.nextInt(8); i >= 0; i--) {
+                same("undo()", t.undo(), n.undo());
+            }
         } else if (which < 30) {
             ask(which % 5);
         } else if (which < 45) {
